@@ -698,7 +698,6 @@ public final class PictureInlays {
             this.woods = woods;
         }
 
-        @Override
         int compare(int a, int b) {
             return Integer.compare(woods.brightness(b), woods.brightness(a));
         }
@@ -713,7 +712,6 @@ public final class PictureInlays {
             this.pieces = pieces;
         }
 
-        @Override
         int compare(int a, int b) {
             if (pieces.isAtEdge(a) != pieces.isAtEdge(b)) {
                 return pieces.isAtEdge(b) ? -1 : 1;
@@ -731,7 +729,6 @@ public final class PictureInlays {
             this.pieces = pieces;
         }
 
-        @Override
         int compare(int a, int b) {
             if (pieces.rowsOf(a) != pieces.rowsOf(b)) {
                 return Integer.compare(pieces.rowsOf(b), pieces.rowsOf(a));

@@ -10,7 +10,15 @@ public final class Promise06PieceTest {
         told(x, 1, 3, 4, 1, 1, 3, 2, 0);
         told(x, 2, 1, 1, 4, 1, 1, 1, 0);
         told(x, 3, 2, 4, 0, 3, 4, 1, 1);
+        x.part(2);
+        told(x, 1, 3, 4, 1, 1, 3, 2, 0);
+        told(x, 2, 2, 4, 0, 3, 4, 1, 1);
+        x.part(400);
+        told(x, 0, 0, 24, 0, 0, 6, 4, 1);
+        x.part(1);
+        told(x, 0, 0, 15, 0, 0, 6, 4, 1);
         edges();
+        partedAnew();
         wrongInputs(x);
         Check.end();
     }
@@ -28,6 +36,16 @@ public final class Promise06PieceTest {
         told(x, 2, 2, 1, 4, 1, 1, 1, 1);
         told(x, 3, 3, 1, 0, 2, 1, 1, 1);
         told(x, 4, 4, 1, 3, 3, 1, 1, 1);
+    }
+
+    /** Nothing of the larger pieces that were before may show in the smaller ones. */
+    private static void partedAnew() {
+        PictureInlays x = Drawn.parted(400, "0123", "4567");
+        told(x, 0, x.piece(0, 0), 8, 0, 0, 4, 2, 1);
+        x.part(1);
+        for (int piece = 0; piece < 8; piece++) {
+            told(x, piece, piece, 1, piece % 4, piece / 4, 1, 1, 1);
+        }
     }
 
     private static void wrongInputs(PictureInlays x) {
