@@ -4,12 +4,18 @@ import java.util.concurrent.Callable;
 final class Check {
     private static int asked = 0;
     private static int wrong = 0;
+    private static String sentence = "";
 
     static final String STATE = "throws.IllegalStateException";
     static final String INDEX = "throws.IndexOutOfBoundsException";
     static final String ARGUMENT = "throws.IllegalArgumentException";
 
     private Check() {
+    }
+
+    /** The document's sentence that the following checks are about; it is printed with what fails. */
+    static void says(String words) {
+        sentence = "\"" + words + "\": ";
     }
 
     /** What a call answers, or throws. and the very class that it throws. */
@@ -29,7 +35,7 @@ final class Check {
         asked++;
         if (!String.valueOf(want).equals(String.valueOf(got))) {
             wrong++;
-            System.out.println(what + ": answered " + got + ", due is " + want);
+            System.out.println(sentence + what + ": answered " + got + ", due is " + want);
         }
     }
 

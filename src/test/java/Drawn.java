@@ -24,6 +24,40 @@ final class Drawn {
         return x.pixel(column, row, WOODS[k][0], WOODS[k][1], WOODS[k][2]);
     }
 
+    /** Twenty by twenty: stairs of kind 0 that hang on the upper row and the right column, with kind 1 between them. */
+    static String[] stairs() {
+        String[] rows = new String[20];
+        for (int row = 0; row < 20; row++) {
+            StringBuilder text = new StringBuilder();
+            for (int column = 0; column < 20; column++) {
+                text.append(row == 0 || column == 19 || (row + column) % 4 < 2 ? '0' : '1');
+            }
+            rows[row] = text.toString();
+        }
+        return rows;
+    }
+
+    /** Turns at all crossings of sides: an odd number of the four places round it makes one, two across make two. */
+    static int turns(String[] rows, char wood) {
+        int sum = 0;
+        for (int y = 0; y <= rows.length; y++) {
+            for (int x = 0; x <= rows[0].length(); x++) {
+                int a = is(rows, x - 1, y - 1, wood);
+                int b = is(rows, x, y - 1, wood);
+                int c = is(rows, x - 1, y, wood);
+                int d = is(rows, x, y, wood);
+                boolean across = a == d && b == c && a != b;
+                sum += across ? 2 : (a + b + c + d) % 2;
+            }
+        }
+        return sum;
+    }
+
+    private static int is(String[] rows, int x, int y, char wood) {
+        boolean inside = y >= 0 && y < rows.length && x >= 0 && x < rows[0].length();
+        return inside && rows[y].charAt(x) == wood ? 1 : 0;
+    }
+
     static PictureInlays parted(int least, String... rows) {
         PictureInlays x = picture(rows);
         x.part(least);

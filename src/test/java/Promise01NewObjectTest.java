@@ -1,6 +1,45 @@
 /** Promise 1: WIDTH and HEIGHT are the nearest of 1 .. 20, KINDS of 1 .. 8. */
 public final class Promise01NewObjectTest {
     public static void main(String[] args) {
+        nearestOfEachByItself();
+        lastPlaceAndKind();
+        farOutside();
+        blackAtFirst();
+        notPartedAtFirst();
+        Check.end();
+    }
+
+    private static void nearestOfEachByItself() {
+        Check.says("WIDTH and HEIGHT are the nearest of 1 .. 20");
+        int[][] sides = {{-2, 1}, {-1, 1}, {0, 1}, {1, 1}, {2, 2}, {10, 10}, {19, 19}, {20, 20}, {21, 20}, {22, 20}};
+        for (int[] side : sides) {
+            sizes(side[0], 5, 3, side[1], 5, 3);
+            sizes(5, side[0], 3, 5, side[1], 3);
+        }
+        Check.says("KINDS of 1 .. 8");
+        int[][] kinds = {{-2, 1}, {-1, 1}, {0, 1}, {1, 1}, {2, 2}, {5, 5}, {7, 7}, {8, 8}, {9, 8}, {10, 8}, {20, 8}};
+        for (int[] kind : kinds) {
+            sizes(4, 6, kind[0], 4, 6, kind[1]);
+        }
+    }
+
+    private static void lastPlaceAndKind() {
+        Check.says("WIDTH and HEIGHT are the nearest of 1 .. 20, KINDS of 1 .. 8");
+        int[][] asked = {{0, 0, 0}, {1, 1, 1}, {20, 20, 8}, {21, 21, 9}, {3, 2, 4}};
+        int[][] last = {{0, 0, 0}, {0, 0, 0}, {19, 19, 7}, {19, 19, 7}, {2, 1, 3}};
+        for (int i = 0; i < asked.length; i++) {
+            int[] end = last[i];
+            PictureInlays x = new PictureInlays(asked[i][0], asked[i][1], asked[i][2]);
+            Check.due("the last place", true, () -> x.pixel(end[0], end[1], 1, 2, 3));
+            Check.due("a column more", Check.INDEX, () -> x.pixel(end[0] + 1, end[1], 1, 2, 3));
+            Check.due("a row more", Check.INDEX, () -> x.pixel(end[0], end[1] + 1, 1, 2, 3));
+            Check.due("the last kind", true, () -> x.kind(end[2], 1, 2, 3));
+            Check.due("a kind more", Check.INDEX, () -> x.kind(end[2] + 1, 1, 2, 3));
+        }
+    }
+
+    private static void farOutside() {
+        Check.says("WIDTH and HEIGHT are the nearest of 1 .. 20, KINDS of 1 .. 8");
         sizes(1, 1, 1, 1, 1, 1);
         sizes(20, 20, 8, 20, 20, 8);
         sizes(7, 3, 5, 7, 3, 5);
@@ -10,9 +49,6 @@ public final class Promise01NewObjectTest {
         sizes(-5, -1, -1, 1, 1, 1);
         sizes(Integer.MIN_VALUE, Integer.MAX_VALUE, Integer.MIN_VALUE, 1, 20, 1);
         sizes(Integer.MAX_VALUE, Integer.MIN_VALUE, Integer.MAX_VALUE, 20, 1, 8);
-        blackAtFirst();
-        notPartedAtFirst();
-        Check.end();
     }
 
     private static void sizes(int width, int height, int kinds, int columns, int rows, int woods) {
@@ -27,6 +63,7 @@ public final class Promise01NewObjectTest {
     }
 
     private static void blackAtFirst() {
+        Check.says("(0, 0, 0 at first)");
         PictureInlays x = new PictureInlays(2, 2, 3);
         for (int place = 0; place < 4; place++) {
             int column = place % 2;
@@ -40,6 +77,7 @@ public final class Promise01NewObjectTest {
     }
 
     private static void notPartedAtFirst() {
+        Check.says("IllegalStateException: it was not PARTED since another colour was told");
         PictureInlays x = new PictureInlays(2, 2, 3);
         Check.due("pieceOf", Check.STATE, () -> x.pieceOf(0, 0));
         Check.due("piece", Check.STATE, () -> x.piece(0, 0));
