@@ -3,6 +3,7 @@ import java.lang.reflect.Field;
 import java.lang.reflect.Method;
 import java.lang.reflect.Modifier;
 import java.util.Arrays;
+import java.util.StringJoiner;
 import java.util.TreeSet;
 
 /** The public face is the document's, with no member more. */
@@ -13,21 +14,21 @@ public final class FaceTest {
 
     public static void main(String[] args) {
         TreeSet<String> due = new TreeSet<>(Arrays.asList(
-                "boolean pixel 5 " + INDEX + " " + ARGUMENT,
-                "boolean kind 4 " + INDEX + " " + ARGUMENT,
-                "int part 1 " + ARGUMENT,
-                "int pieceOf 2 " + STATE + " " + INDEX,
-                "int piece 2 " + STATE + " " + INDEX + " " + ARGUMENT,
-                "int joined 2 " + STATE + " " + INDEX,
-                "int outline 1 " + STATE + " " + INDEX,
-                "int corner 3 " + STATE + " " + INDEX,
-                "int left 2 " + STATE + " " + INDEX + " " + ARGUMENT,
-                "boolean reached 3 " + STATE + " " + INDEX + " " + ARGUMENT,
-                "int order 1 " + STATE + " " + INDEX,
-                "int nest 2 " + STATE + " " + ARGUMENT,
-                "int at 2 " + STATE + " " + INDEX,
-                "int border 3 " + INDEX + " " + ARGUMENT,
-                "int sorted 1 " + INDEX));
+                "boolean pixel(int, int, int, int, int) " + INDEX + " " + ARGUMENT,
+                "boolean kind(int, int, int, int) " + INDEX + " " + ARGUMENT,
+                "int part(int) " + ARGUMENT,
+                "int pieceOf(int, int) " + STATE + " " + INDEX,
+                "int piece(int, int) " + STATE + " " + INDEX + " " + ARGUMENT,
+                "int joined(int, int) " + STATE + " " + INDEX,
+                "int outline(int) " + STATE + " " + INDEX,
+                "int corner(int, int, int) " + STATE + " " + INDEX,
+                "int left(int, int) " + STATE + " " + INDEX + " " + ARGUMENT,
+                "boolean reached(int, int, int) " + STATE + " " + INDEX + " " + ARGUMENT,
+                "int order(int) " + STATE + " " + INDEX,
+                "int nest(int, int) " + STATE + " " + ARGUMENT,
+                "int at(int, int) " + STATE + " " + INDEX,
+                "int border(int, int, int) " + INDEX + " " + ARGUMENT,
+                "int sorted(int) " + INDEX));
         Check.same("methods that are not private", due, openMethods());
         Check.same("no private method bears a public one's name", "", privateNamesTaken());
         Check.same("fields that are not private", "[NONE]", openFields());
@@ -35,6 +36,7 @@ public final class FaceTest {
         Check.same("constructors", "[public PictureInlays(int,int,int)]", constructors());
         int modifiers = PictureInlays.class.getModifiers();
         Check.same("public and final", true, Modifier.isPublic(modifiers) && Modifier.isFinal(modifiers));
+        Check.same("inner classes that are public, protected or not static", "[]", openClasses());
         Check.end();
     }
 
@@ -44,7 +46,7 @@ public final class FaceTest {
             if (!Modifier.isPrivate(method.getModifiers())) {
                 StringBuilder text = new StringBuilder();
                 text.append(method.getReturnType()).append(' ').append(method.getName());
-                text.append(' ').append(method.getParameterCount());
+                text.append(parameters(method));
                 for (Class<?> thrown : method.getExceptionTypes()) {
                     text.append(' ').append(thrown.getSimpleName());
                 }
@@ -52,6 +54,14 @@ public final class FaceTest {
             }
         }
         return found;
+    }
+
+    private static String parameters(Method method) {
+        StringJoiner text = new StringJoiner(", ", "(", ")");
+        for (Class<?> type : method.getParameterTypes()) {
+            text.add(type.getSimpleName());
+        }
+        return text.toString();
     }
 
     private static String privateNamesTaken() {
@@ -73,6 +83,17 @@ public final class FaceTest {
         for (Field field : PictureInlays.class.getDeclaredFields()) {
             if (!Modifier.isPrivate(field.getModifiers())) {
                 found.add(field.getName());
+            }
+        }
+        return found;
+    }
+
+    private static TreeSet<String> openClasses() {
+        TreeSet<String> found = new TreeSet<>();
+        for (Class<?> inner : PictureInlays.class.getDeclaredClasses()) {
+            int modifiers = inner.getModifiers();
+            if (Modifier.isPublic(modifiers) || Modifier.isProtected(modifiers) || !Modifier.isStatic(modifiers)) {
+                found.add(inner.getSimpleName());
             }
         }
         return found;
